@@ -322,7 +322,7 @@ public final class LayoutFront {
         }
 
         boolean isSign(int i, char sign) {
-            return has(i) && kinds[i] == SIGN && values[i] == sign;
+            return i >= 0 && i < size && kinds[i] == SIGN && values[i] == sign;
         }
 
         boolean opensBracket(int i) {
@@ -772,7 +772,11 @@ public final class LayoutFront {
                     open.push(Open.CASE);
                     return true;
                 case WORD_THEN:
-                    return passThen();
+                    boolean fits = end(Open.IF);
+                    if (fits) {
+                        open.push(Open.THEN);
+                    }
+                    return fits;
                 case WORD_ELSE:
                     return end(Open.THEN);
                 case WORD_OF:
@@ -782,14 +786,6 @@ public final class LayoutFront {
                 default:
                     return true;
             }
-        }
-
-        private boolean passThen() {
-            boolean fits = end(Open.IF);
-            if (fits) {
-                open.push(Open.THEN);
-            }
-            return fits;
         }
 
         /** Whether the sign fits what is open. */
@@ -900,15 +896,10 @@ public final class LayoutFront {
         }
 
         void addOperation(int first, int last, boolean isDash) {
+            boolean isBare = !endsWithOperand();
             operates = true;
-            if (endsWithOperand()) {
-                add(OPERATION, first, last);
-            } else if (isDash) {
-                add(MINUS, first, last);
-            } else {
-                lacksOperand = true;
-                add(OPERATION, first, last);
-            }
+            lacksOperand = lacksOperand || isBare && !isDash;
+            add(isBare ? MINUS : OPERATION, first, last);
         }
 
         private void add(int part, int first, int last) {
@@ -1111,6 +1102,7 @@ public final class LayoutFront {
             }
         }
 
+        /** The token itself, if it opens no bracket. */
         private int closerOf(int i) {
             return i >= 0 && i < MOST_LAID ? closers[i] : i;
         }
