@@ -12,11 +12,18 @@ final class Checks {
     }
 
     private int wrong;
+    private String sentence = "";
+
+    /** The document's own words, or the part of them, that the checks from here on are about. */
+    void sentence(String words) {
+        sentence = words;
+    }
 
     void due(String what, Object want, Object got) {
         if (!want.equals(got)) {
             wrong++;
-            System.out.println(what + "\n  due: " + want + "\n  got: " + got);
+            String of = sentence.isEmpty() ? "" : "[" + sentence + "]\n  ";
+            System.out.println(of + what + "\n  due: " + want + "\n  got: " + got);
         }
     }
 
@@ -130,5 +137,34 @@ final class Checks {
 
     void dueWrong(String text, int place) {
         dueRead(text, ARGUMENT + " at " + place);
+    }
+
+    void dueTooMany(String text, int place) {
+        dueRead(text, STATE + " at " + place);
+    }
+
+    /** How many rows were put together, and how many are in conflict. */
+    void dueRows(String fixities, String text, int together, int inConflict) {
+        LayoutFront x = with(fixities, text);
+        x.read();
+        due("rows put together in\n" + text, together, x.count(2));
+        due("rows in conflict in\n" + text, inConflict, x.count(3));
+    }
+
+    /** All that can be asked without a change: tokens, place and counts. */
+    static String seen(LayoutFront x) {
+        int size = 0;
+        while (!answerOf(tokenAt(x, size)).equals(INDEX)) {
+            size++;
+        }
+        StringBuilder s = new StringBuilder(shown(x, size)).append(" | place ").append(x.place()).append(" | counts");
+        for (int what = 0; what < 5; what++) {
+            s.append(' ').append(x.count(what));
+        }
+        return s.toString();
+    }
+
+    private static Call tokenAt(LayoutFront x, int i) {
+        return () -> x.token(i);
     }
 }
